@@ -547,6 +547,12 @@ public final class ParserparkAgainstModel {
         }
     }
 
+    /** Rules with which every row of the letters has a tree, and mostly just one. */
+    private static int[] plainRule(int i, int letters) {
+        int letter = i % letters;
+        return i < letters ? new int[] {10, letter, -1, -1} : new int[] {10, letter, 10, -1};
+    }
+
     private static int[] inputs(int call, Model model, int letters, int names) {
         int text = about(0, Math.max(0, model.texts.size() - 1));
         int size = text >= 0 && text < model.texts.size() ? model.texts.get(text).length() : 1;
@@ -627,7 +633,9 @@ public final class ParserparkAgainstModel {
             StringBuilder calls = new StringBuilder();
             for (int i = 0; i < CALLS; i++) {
                 int call = chooseCall(run, i);
-                int[] inputs = inputs(call, model, letters, names);
+                boolean plain = run % 3 == 0 && i < 2 * letters;
+                call = plain ? 0 : call;
+                int[] inputs = plain ? plainRule(i, letters) : inputs(call, model, letters, names);
                 Object want = answerOrException(null, model, call, inputs);
                 Object got = answerOrException(x, model, call, inputs);
                 calls.append(call).append(java.util.Arrays.toString(inputs)).append(" -> ").append(got).append('\n');
