@@ -1,3 +1,4 @@
+import java.lang.reflect.Field;
 import java.util.NoSuchElementException;
 
 /** For each promise of the document: ordinary inputs, the edges that it names, and wrong inputs. */
@@ -742,6 +743,14 @@ public final class ParserparkPromises {
                 + y.ambiguousAt(3, 4, 3));
         due(0L, () -> y.work());
         due(INDEX, () -> y.length(0));
+        // The very last row that is looked at.
+        y.addRule(10, 11, NONE, NONE);
+        y.addRule(11, 2, 12, 2);
+        y.addRule(12, 2, 2, NONE);
+        y.addRule(12, 2, 2, NONE);
+        y.dropRule(1);
+        due(4, () -> y.ambiguous(3, 4));
+        due(2, () -> y.ambiguousAt(3, 4, 0));
     }
 
     private static void work() {
@@ -835,6 +844,39 @@ public final class ParserparkPromises {
         x.dropRule(2);
         due(true, () -> x.isSound());
         due(true, () -> x.trees(1) > 0);
+        spoiltNumbersAreSeen();
+    }
+
+    /** No call can make an object unsound, so its kept numbers are spoilt from outside. */
+    private static void spoiltNumbersAreSeen() {
+        Parserpark x = pairsAndTriples();
+        text(x, "aaaaa");
+        text(x, "aaaaaaaaaa");
+        int[][] numbers = {keptNumbers(x, 0), keptNumbers(x, 1)};
+        int[] spots = {4, 1, 9, 12, 88, 499};
+        for (int i = 0; i < spots.length; i++) {
+            int spot = spots[i];
+            int[] kept = numbers[i < 2 ? 0 : 1];
+            kept[spot]++;
+            due(false, () -> x.isSound());
+            kept[spot]--;
+            due(true, () -> x.isSound());
+        }
+    }
+
+    private static int[] keptNumbers(Parserpark x, int text) {
+        Object spans = field(((Object[]) field(x, "texts"))[text], "spans");
+        return (int[]) field(spans, "numbers");
+    }
+
+    private static Object field(Object owner, String name) {
+        try {
+            Field field = owner.getClass().getDeclaredField(name);
+            field.setAccessible(true);
+            return field.get(owner);
+        } catch (ReflectiveOperationException e) {
+            throw new IllegalStateException(e);
+        }
     }
 
     /** The greatest tree that there can be: 19 spans, with five rules over each. */
