@@ -621,9 +621,10 @@ public final class Parserpark {
         /** The number of trees over a span that have this rule at their top. */
         int treesByRule(Rule rule, int from, int to) {
             int sum = 0;
-            for (int firstEnd = from; firstEnd <= to; firstEnd++) {
+            // Where a symbol is missing, the part ahead of it can end nowhere but at the end.
+            for (int firstEnd = rule.second == NONE ? to : from; firstEnd <= to; firstEnd++) {
                 int first = treesOf(rule.first, from, firstEnd);
-                for (int secondEnd = firstEnd; first > 0 && secondEnd <= to; secondEnd++) {
+                for (int secondEnd = rule.third == NONE ? to : firstEnd; first > 0 && secondEnd <= to; secondEnd++) {
                     int second = limited(first * treesOf(rule.second, firstEnd + 1, secondEnd));
                     sum = limited(sum + limited(second * treesOf(rule.third, secondEnd + 1, to)));
                 }
@@ -636,9 +637,9 @@ public final class Parserpark {
          * the first end times LONGEST_TEXT, plus the second one; NONE if this rule has no tree over the span.
          */
         int splitOf(Rule rule, int from, int to) {
-            for (int firstEnd = from; firstEnd <= to; firstEnd++) {
+            for (int firstEnd = rule.second == NONE ? to : from; firstEnd <= to; firstEnd++) {
                 boolean fits = treesOf(rule.first, from, firstEnd) > 0;
-                for (int secondEnd = firstEnd; fits && secondEnd <= to; secondEnd++) {
+                for (int secondEnd = rule.third == NONE ? to : firstEnd; fits && secondEnd <= to; secondEnd++) {
                     if (treesOf(rule.second, firstEnd + 1, secondEnd) > 0
                             && treesOf(rule.third, secondEnd + 1, to) > 0) {
                         return firstEnd * LONGEST_TEXT + secondEnd;
