@@ -749,7 +749,7 @@ public final class Parserpark {
         }
 
         private void layRule(Rule rule, int from, int to) {
-            if (ruleCount < ruleNumbers.length) {
+            if (ruleCount >= 0 && ruleCount < ruleNumbers.length) {
                 ruleNumbers[ruleCount] = rule.number;
                 ruleCount++;
             }

@@ -33,7 +33,7 @@ public final class ParserparkRefusals extends Sentences {
         due(want, () -> tour(x));
     }
 
-    /** All answers that can tell one state from another; less than 400 calls for the states below. */
+    /** All answers that can tell one state from another; less than 450 calls for the states below. */
     private static String tour(Parserpark x) {
         StringBuilder answers = new StringBuilder();
         put(answers, () -> x.rules());
@@ -50,6 +50,8 @@ public final class ParserparkRefusals extends Sentences {
             put(answers, () -> row(x, text));
             put(answers, () -> form(x, text));
             put(answers, () -> colours(x, text));
+            put(answers, () -> x.fault(text));
+            put(answers, () -> x.replace(text, 0, 0));
             put(answers, () -> x.fault(text));
         }
         put(answers, () -> x.release());

@@ -967,6 +967,13 @@ public final class ParserparkSentences extends Sentences {
         due(1, () -> none.accept(0));
         none.addLetter(0, 0);
         due(STATE, () -> none.accept(0));
+        Parserpark kept = grammar(rule(10, 0));
+        text(kept, "a");
+        kept.accept(0);
+        kept.replace(0, 0, 1);
+        due(STATE, () -> kept.accept(0));
+        kept.replace(0, 0, 0);
+        due('-', () -> kept.fault(0));
     }
 
     private static void fault() {

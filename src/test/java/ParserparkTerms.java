@@ -775,6 +775,14 @@ public final class ParserparkTerms extends Sentences {
         add(longer, 12, 0);
         due("0 1 4", () -> row(longer, 0));
         due('x', () -> longer.fault(0));
+        // Another letter, or the same one anew, leaves what was accepted.
+        Parserpark grown = grammar(rule(10, 0), rule(10, 0, 0));
+        text(grown, "a");
+        grown.accept(0);
+        grown.replace(0, 0, 0);
+        due('-', () -> grown.fault(0));
+        grown.addLetter(0, 0);
+        due('x', () -> grown.fault(0));
         says("otherwise there is none, '-'.");
         Parserpark none = grammar(rule(10, 11, 11), rule(11, 0));
         text(none, "aa");
