@@ -12,7 +12,8 @@ import java.util.regex.Pattern;
 /** Plays the example of README.md: each call answers what stands behind it, and each call of the face is there. */
 public final class ParserparkReadme {
     private static final Pattern BLOCK = Pattern.compile("```java\n(.*?)```", Pattern.DOTALL);
-    private static final Pattern CALL = Pattern.compile("(?:int (\\w+) = )?workshop\\.(\\w+)\\((.*?)\\); +// ([^,]+).*");
+    private static final Pattern CALL = Pattern.compile(
+            "(?:int (\\w+) = )?workshop\\.(\\w+)\\((.*?)\\); +// ([^,]+).*");
 
     private static final Parserpark WORKSHOP = new Parserpark();
     private static final Set<String> PLAYED = new TreeSet<>();
